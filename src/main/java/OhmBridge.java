@@ -559,14 +559,11 @@ public final class OhmBridge {
         if (meant == null) {
             return scanning ? NOT_DONE : NO_SUCH_PART;
         }
-        switch (text.order) {
-            case 't':
-                return obeyBath(meant);
-            case 'b':
-            case 'm':
-                return obeyCut(meant);
-            default:
-                break;
+        if (text.order == 't') {
+            return obeyBath(meant);
+        }
+        if (text.order == 'b' || text.order == 'm') {
+            return obeyCut(meant);
         }
         if (scanning) {
             trial.scanner = meant.place;
@@ -694,12 +691,8 @@ public final class OhmBridge {
                     && temperature >= temperatureOf(0) && temperature <= temperatureOf(nodes - 1);
         }
 
-        int lastTemperature() {
-            return temperatureOf(nodes - 1);
-        }
-
         int nearest(int temperature) {
-            return Math.min(Math.max(temperature, temperatureOf(0)), lastTemperature());
+            return Math.min(Math.max(temperature, temperatureOf(0)), temperatureOf(nodes - 1));
         }
 
         /** The ratio at a temperature to which the table goes. */
@@ -721,7 +714,7 @@ public final class OhmBridge {
                 return NOT_FOUND;
             }
             int low = temperatureOf(0);
-            int high = lastTemperature();
+            int high = temperatureOf(nodes - 1);
             // 32 halvings leave nothing of any range of temperatures
             for (int halving = 0; halving < 32 && low < high; halving++) {
                 int middle = low + (high - low) / 2;
@@ -842,7 +835,9 @@ public final class OhmBridge {
         }
 
         void log(int reading) {
-            System.arraycopy(latest, 0, latest, 1, KEPT_READINGS - 1);
+            for (int index = KEPT_READINGS - 1; index > 0; index--) {
+                latest[index] = latest[index - 1];
+            }
             latest[0] = reading;
             readings++;
             if (alarm == 0 && (reading < low || reading > high)) {
@@ -1021,7 +1016,7 @@ public final class OhmBridge {
             }
             long cold = (long) sensor.trueBase * table.ratioAt(sensor.temperature) / MILLION;
             long warmth = current * current * cold / MILLION * sensor.strainOf(HEATING) / MILLION;
-            long warm = Math.min(sensor.temperature + warmth, table.lastTemperature());
+            long warm = Math.min(sensor.temperature + warmth, table.temperatureOf(table.nodes - 1));
             return (long) sensor.trueBase * table.ratioAt((int) warm) / MILLION;
         }
 
@@ -1167,8 +1162,6 @@ public final class OhmBridge {
         boolean parse(int from) {
             order = characterAt(from);
             next = from + 1;
-            sensor = NOWHERE;
-            number = 0;
             if (order == 's') {
                 return takes(';');
             }

@@ -277,6 +277,11 @@ public final class MeasuringTest {
         Due.due(22, x.diagnosis(0), 5);
         x.set(4, 501);
         Due.due(22, x.diagnosis(0), 0);
+        x.lead(0, 0, 1002);
+        Due.due(22, x.diagnosis(0), 0);
+        x.lead(0, 0, 1003);
+        Due.due(22, x.diagnosis(0), 5);
+        x.lead(0, 0, 0);
         x.strain(0, 1, 5000);
         Due.due(22, x.diagnosis(0), 0);
         x.strain(0, 1, 5001);
@@ -399,6 +404,12 @@ public final class MeasuringTest {
     }
 
     private static void scansOfUnfit() {
+        OhmBridge last = Due.evenTable();
+        last.sensor(0, 2, 100000);
+        last.plug(0, 3, 2);
+        Due.due(24, last.scan(), 0);
+        Due.due(24, last.count(5), 32);
+        Due.due(24, last.scan(), 0);
         OhmBridge x = Due.exactSensor(3);
         x.cut(0, 0, 1);
         Due.due(24, x.scan(), -1);

@@ -175,7 +175,8 @@ public final class SensorsTest {
         Due.due(13, x.strain(0, 0, 5000), 0);
         Due.due(13, x.strain(0, 0, 5001), Due.INVALID);
         Due.due(13, x.strain(0, 0, -1), Due.INVALID);
-        Due.due(13, x.strain(0, 0, 3), 5000);
+        Due.due(13, x.strain(0, 0, 0), 5000);
+        Due.due(13, x.strain(0, 0, 3), 0);
         Due.due(13, x.strain(0, 1, -100000), 0);
         Due.due(13, x.strain(0, 1, 100000), -100000);
         Due.due(13, x.strain(0, 1, -100001), Due.INVALID);

@@ -190,5 +190,18 @@ public final class TextsTest {
         Due.due(33, x.play(), 0);
         Due.due(33, x.count(6), 4);
         Due.due(33, x.undo(), 3);
+        // a sensor of another table is of it still when it was played and undone
+        x.table();
+        x.node(1, 300, 5000);
+        x.node(1, 310, 5100);
+        x.sensor(1, 2, 100000);
+        Due.type(x, "t1,310;");
+        Due.due(33, x.play(), 1);
+        Due.due(33, x.sensorOf(1, 0), 1);
+        Due.due(33, x.sensorOf(1, 4), 310);
+        x.undo();
+        Due.due(29, x.sensorOf(1, 0), 1);
+        Due.due(29, x.sensorOf(1, 4), 300);
+        Due.due(29, x.ohms(1, 0), 500);
     }
 }
