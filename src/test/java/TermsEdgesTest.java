@@ -309,6 +309,11 @@ public final class TermsEdgesTest extends Edges {
             x.drift(0, 100000);
             due(x.ohms(0, 0), 11000);
             due(x.sensorOf(0, 3), 1000);
+            // heat is by the true base, too: 110000 thousandths of an ohm warm it by 110
+            OhmBridge hot = Due.exactSensor(4);
+            hot.drift(0, 100000);
+            hot.strain(0, 0, 1000);
+            due(hot.ohms(0, 0), 110121);
         });
         sentence("By a current of c it is warmer by c * c * (its resistance at the temperature that it is at) / 1000000 * heating"
                 + " / 1000000, but not warmer than the last temperature of its table", () -> {
@@ -596,6 +601,12 @@ public final class TermsEdgesTest extends Edges {
             due(x.read(0), 1);
             x.bath(0, 2);
             due(x.read(0), 2);
+            // by the assumed base, not by the true one
+            OhmBridge drifted = Due.exactSensor(4);
+            drifted.drift(0, -10000);
+            due(drifted.read(0), -1000);
+            drifted.calibrate(0, 0);
+            due(drifted.read(0), 0);
         });
     }
 
@@ -699,6 +710,17 @@ public final class TermsEdgesTest extends Edges {
             OhmBridge x = Due.exactSensor(4);
             x.strain(0, 2, 1);
             due(x.diagnosis(0), 3);
+            // calibrated to 5555: 5000 are enough for it now, though not for the true base of 100000
+            OhmBridge y = withTable(0, 50000, 1, 500000, 2, 9000000);
+            y.set(0, 131072);
+            y.sensor(0, 4, 100000);
+            y.plug(0, 2, 0);
+            due(y.diagnosis(0), 3);
+            y.bath(0, 1);
+            due(y.calibrate(0, 2), 5555);
+            y.bath(0, 0);
+            due(y.ohms(0, 5), 5000);
+            due(y.diagnosis(0), 0);
             // leads that are measured as its own
             OhmBridge two = Due.exactSensor(2);
             two.strain(0, 2, 1);
@@ -739,6 +761,10 @@ public final class TermsEdgesTest extends Edges {
             due(unlike(3, 0, 501, 500), 5);
             due(unlike(3, 0, 0, 0), 0);
             due(unlike(3, 1, 0, 0), 5);
+            due(unlike(3, 600, 100, 500), 0);
+            due(unlike(3, 601, 100, 500), 5);
+            due(unlike(3, 100, 601, 500), 5);
+            due(unlike(3, 50000, 50000, 0), 0);
             due(unlike(3, 50000, 0, 50000), 0);
             due(unlike(3, 50000, 0, 49999), 5);
             due(unlike(2, 501, 0, 500), 0);
@@ -1176,6 +1202,16 @@ public final class TermsEdgesTest extends Edges {
             fault(wide, "t0,-200000;", NOT_FOUND, NOT_FOUND);
             fault(wide, "t0,-200001;", 0, 3);
             fault(wide, "t0,-999999;", 0, 3);
+            // by its own table, not by the first one
+            OhmBridge second = Due.exactSensor(3);
+            second.table();
+            second.node(1, 100001, 1000000);
+            second.node(1, 200000, 2000000);
+            second.sensor(1, 2, 100000);
+            fault(second, "t1,100001;", NOT_FOUND, NOT_FOUND);
+            fault(second, "t1,100000;", 0, 3);
+            fault(second, "t1,200000;", NOT_FOUND, NOT_FOUND);
+            fault(second, "t1,200001;", 0, 3);
             for (int first = 1; first <= 7; first++) {
                 fault(faulty(first), "r0;", 0, 3);
             }
@@ -1241,23 +1277,42 @@ public final class TermsEdgesTest extends Edges {
         return x;
     }
 
-    /** The same change once more, though nothing is another one by it: it is a change all the same. */
-    private static void changeOfNothing() {
-        OhmBridge x = changeable();
-        x.undo();
-        int[] answers = {x.set(6, 3), x.bath(0, 0), x.lead(0, 0, 9), x.strain(0, 1, 40), x.drift(0, 0)};
-        for (int answer : answers) {
-            due(answer > INVALID && answer != NOT_POSSIBLE ? 1 : 0, 1);
+    /** A change that leaves every number as it was. */
+    private static int changeOfNothing(OhmBridge x, int which) {
+        switch (which) {
+            case 0: return x.set(6, 4);
+            case 1: return x.bath(0, 0);
+            case 2: return x.lead(0, 0, 9);
+            case 3: return x.strain(0, 1, 40);
+            case 4: return x.drift(0, 0);
+            case 5: return x.limits(1, -200000, 850000, 0);
+            default: return x.play();
         }
-        due(x.count(6), 4);
-        OhmBridge y = changeable();
-        y.undo();
-        y.undo();
-        due(y.count(6), 2);
-        y.set(6, 3);
-        due(y.count(6), 3);
-        y.bath(0, 0);
-        due(y.count(6), 4);
+    }
+
+    /** It is a change all the same. */
+    private static void changesOfNothing() {
+        for (int which = 0; which <= 6; which++) {
+            OhmBridge x = busy();
+            x.clearText();
+            String before = Told.of(x);
+            due(changeOfNothing(x, which) > INVALID ? 1 : 0, 1);
+            same(Told.of(x), before);
+            due(x.undo(), 3);
+            same(Told.of(x).replace("count 6: 3", "count 6: 4"), before);
+            due(x.set(6, 9), 4);
+            due(x.count(6), 4);
+            x.undo();
+            x.undo();
+            due(x.count(26), 3);
+            due(changeOfNothing(x, which) > INVALID ? 1 : 0, 1);
+            due(x.count(6), 3);
+        }
+        OhmBridge calibrated = Due.exactSensor(4);
+        calibrated.set(4, 1);
+        calibrated.undo();
+        due(calibrated.calibrate(0, 0), 100000);
+        due(calibrated.count(6), 4);
         OhmBridge empty = new OhmBridge();
         due(empty.play(), 0);
         due(empty.count(6), 1);
@@ -1292,7 +1347,7 @@ public final class TermsEdgesTest extends Edges {
                 due(change(x, which) > INVALID ? 1 : 0, 1);
                 due(x.count(6), 4);
             }
-            changeOfNothing();
+            changesOfNothing();
             for (int which = 0; which <= 12; which++) {
                 OhmBridge x = changeable();
                 askedOnly(x, which);
